@@ -840,7 +840,6 @@ public final class BoltsByOrder {
         static final int OAK = 3;
         static final int CATHEDRAL = 4;
         static final int POACHER = 5;
-        private static final int[] ABOVE = {-1, ROD, ROD, ROD, COPPER, KITE};
 
         static final int PLACE = 1;
         static final int HEIGHT = 2;
@@ -895,15 +894,10 @@ public final class BoltsByOrder {
         }
 
         boolean isOf(int asked) {
-            int one = kind;
-            // No kind stands deeper than the number of kinds.
-            for (int i = 0; i < KINDS && isKind(one); i++) {
-                if (one == asked) {
-                    return true;
-                }
-                one = ABOVE[one];
+            if (asked == kind || asked == ROD) {
+                return true;
             }
-            return false;
+            return (kind == CATHEDRAL && asked == COPPER) || (kind == POACHER && asked == KITE);
         }
 
         int drawsFrom(int cloudPlace) {

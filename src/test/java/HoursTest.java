@@ -118,6 +118,15 @@ public final class HoursTest {
         x.hours(1);
         due.is("the one that DRAWS most", x.of(2, 6), 1);
         due.is("BOLTS of all", x.now(3), 2);
+        for (int rod = 0; rod < 3; rod++) {
+            x.set(rod, 1, 15);
+            x.set(rod, 2, 0);
+        }
+        x.set(1, 2, 1);
+        x.cloud(0, 15);
+        x.cloud(1, 60);
+        x.hours(1);
+        due.is("one that DRAWS 1", x.of(1, 6), 1);
     }
 
     private static void limits() {
@@ -142,6 +151,12 @@ public final class HoursTest {
         due.is("hours(101), BEYOND ahead of STATE", x.hours(101), B);
         due.is("HOUR", x.now(0), 9999);
         due.is("status(4)", x.status(4), 4);
+        BoltsByOrder y = new BoltsByOrder();
+        for (int i = 0; i < 99; i++) {
+            y.hours(100);
+        }
+        due.is("hours(99) from 9900", y.hours(99), 0);
+        due.is("HOUR", y.now(0), 9999);
         due.promise(16);
         x.rod(0, 0);
         x.set(0, 2, 60);
@@ -244,10 +259,11 @@ public final class HoursTest {
         due.is("HOUR", x.now(0), 27);
         due.is("CLOCK", x.now(1), 3);
         due.is("BOLTS", x.now(3), 8);
-        due.is("BOLTS", x.of(0, 6) + x.of(1, 6), 8);
-        due.is("BILLS", x.now(2), x.of(0, 5) + x.of(1, 5));
-        // The bolts at 3, 6 and 24, 27 are above the left half, and there but 3 is paid for.
-        due.is("STRAYS", x.now(4), 8 * 60 - x.now(2));
+        // The left one has those at 3, 6 and 24, the first of them paid; the right one five, all of them paid.
+        due.is("BOLTS", x.of(0, 6), 3);
+        due.is("BOLTS", x.of(1, 6), 5);
+        due.is("BILLS", x.now(2), 360);
+        due.is("STRAYS", x.now(4), 120);
         due.is("now(-1)", x.now(-1), B);
         due.is("now(6)", x.now(6), B);
     }

@@ -95,6 +95,8 @@ public final class NextBoltTest {
         due.is("ducks(1) far off", x.ducks(1), 58);
         due.promise(20);
         due.is("steals(1) far off", x.steals(1), 59);
+        x.set(0, 2, 11);
+        due.is("steals(1) with all its height", x.steals(1), 60);
         x.set(0, 2, 20);
         due.is("steals(1) never", x.steals(1), NONE);
         due.promise(21);
@@ -104,6 +106,15 @@ public final class NextBoltTest {
         due.is("a COPPER alone can't duck", x.ducks(0), NONE);
         due.promise(20);
         due.is("a COPPER alone has it all the same", x.steals(0), 0);
+        x.turn(0, 0);
+        due.is("a ROD must be higher than 0", x.steals(0), 1);
+        due.promise(21);
+        due.is("a ROD must be 0 high", x.ducks(0), 0);
+        x.cloud(1, 99);
+        due.is("a bolt at once, above place 0", x.ducks(0), 12);
+        due.promise(20);
+        due.is("a bolt at once, above place 0", x.steals(0), 13);
+        x.cloud(1, 0);
         x.cloud(3, 0);
         due.is("no bolt to be stolen", x.steals(0), NONE);
         due.promise(21);

@@ -118,6 +118,13 @@ public final class PaidHoursTest {
         isFork(x, 0, 185, 9);
         isFork(x, 1, 148, 9);
         isFork(x, 2, 0, 1);
+        x.set(0, 2, 9);
+        isFork(x, 0, 333, 17);
+        x.set(0, 2, 1);
+        x.cloud(1, 1);
+        isFork(x, 0, 1, 9);
+        isFork(x, 1, 8, 9);
+        x.set(0, 2, 10);
         x.cloud(1, 36);
         isFork(x, 0, 20, 1);
         isFork(x, 1, 16, 1);
@@ -165,6 +172,14 @@ public final class PaidHoursTest {
         areShares(x, 11, 13, 13);
         x.cloud(0, 15);
         areShares(x, 0, 0, 0);
+        BoltsByOrder full = new BoltsByOrder();
+        for (int rod = 0; rod < 8; rod++) {
+            full.rod(0, 0);
+        }
+        full.cloud(1, 99);
+        areShares(full, 13, 13, 13, 12, 12, 12, 12, 12);
+        full.down(7);
+        areShares(full, 15, 14, 14, 14, 14, 14, 14);
         due.is("share(-1)", x.share(-1), B);
         due.is("share(3)", x.share(3), B);
     }

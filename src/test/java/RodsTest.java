@@ -234,7 +234,7 @@ public final class RodsTest {
         }
         x.cloud(1, 70);
         x.set(0, 2, 60);
-        x.pays(0, 0, 23);
+        x.pays(0, 22, 20);
         x.hours(1);
         due.is("down(4)", x.down(4), B);
         due.is("down(-1)", x.down(-1), B);
@@ -252,6 +252,14 @@ public final class RodsTest {
         due.promise(10);
         due.is("down(0)", x.down(0), 70);
         due.is("now(2)", x.now(2), 0);
+        due.is("no BOLTS of it are left", x.now(3), 0);
+        due.is("no HEIGHT of it is left", x.count(2), 20);
+        due.is("no PAID hours of it are left", x.count(3), 0);
+        due.is("no PAID hour of it is left", x.now(5), 0);
+        x.cloud(1, 10);
+        // The KITE draws 18 and the OAK none: no draw of the one that was taken down is left.
+        due.is("no draw of it is left", x.fork(0, 1), 1);
+        due.is("no draw of it is left", x.share(0), 10);
         due.is("a new one is fresh", x.rod(1, 9), 2);
         int[] fresh = {1, 9, 10, 0, 0, 0, 0};
         for (int what = 0; what < 7; what++) {
@@ -261,6 +269,20 @@ public final class RodsTest {
         due.is("down(0)", x.down(0), 0);
         due.is("down(0)", x.down(0), 0);
         due.is("down(0)", x.down(0), B);
+
+        BoltsByOrder full = new BoltsByOrder();
+        for (int i = 0; i < 8; i++) {
+            full.rod(0, i);
+        }
+        due.is("down(7) of eight", full.down(7), 0);
+        due.is("rod(1, 9)", full.rod(1, 9), 7);
+        due.is("down(0) of eight", full.down(0), 0);
+        due.is("the last", full.of(6, 1), 9);
+        due.is("the last but one", full.of(5, 1), 6);
+        due.is("rod(2, 10)", full.rod(2, 10), 7);
+        due.is("count(0)", full.count(0), 8);
+        due.is("count(2)", full.count(2), 80);
+        due.is("count(3)", full.count(3), 0);
 
         due.promise(11);
         BoltsByOrder y = new BoltsByOrder();

@@ -161,6 +161,16 @@ public final class SheetsTest {
         has(x, 0, 1, 2, 3, 4, 5);
         due.is("nothing else changes", x.now(0), 2);
         due.is("nothing else changes", x.now(3), 1);
+        x.rod(0, 1);
+        due.is("one that isn't struck", x.book(0, 1), 5);
+        has(x, 0, 0, 0, 0, 0, 0);
+        x.set(1, 2, 60);
+        due.is("one that is", x.book(0, 1), 5);
+        has(x, 0, 0, 1, 2, 3, 4);
+        due.is("one that isn't struck any more", x.book(0, 0), 5);
+        has(x, 0, 1, 1, 1, 1, 1);
+        x.down(1);
+        x.book(0, 0);
         x.sheet(1, 64, 0);
         due.is("a sheet of none", x.book(1, 0), 0);
         x.hours(100);
@@ -168,6 +178,10 @@ public final class SheetsTest {
         x.sheet(2, 8, 5);
         due.is("8 bits", x.book(2, 0), 5);
         has(x, 2, 126, 127, -128, -127, -126);
+        x.sheet(2, 64, 40);
+        due.is("a sheet of forty", x.book(2, 0), 40);
+        due.is("the first of forty", x.write(2, 0, 0L), 126);
+        due.is("the last of forty", x.write(2, 39, 0L), 165);
         due.is("book(-1, 0)", x.book(-1, 0), B);
         due.is("book(4, 0)", x.book(4, 0), B);
         due.is("book(3, 0)", x.book(3, 0), Due.MISSING);

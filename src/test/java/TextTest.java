@@ -105,6 +105,9 @@ public final class TextTest {
         isFault("rods at 1", 0);
         isFault("ro at 1", 0);
         isFault("rodat 1", 0);
+        isFault("mod at 1", 0);
+        isFault("rodz at 1", 0);
+        isFault("rod it 1", 4);
         isFault("rod 1", 4);
         isFault("rod rod", 4);
         isFault("rod at at", 7);
