@@ -474,11 +474,9 @@ public final class BoltsByOrder {
     }
 
     public long write(int s, int i, long v) {
-        if (!isSheet(s)) {
-            return tell(BEYOND);
-        }
-        if (sheets[s].isMissing()) {
-            return tell(MISSING);
+        int finding = findingOfSheet(s);
+        if (finding != 0) {
+            return tell(finding);
         }
         if (!isWithin(i, 0, sheets[s].size - 1)) {
             return tell(BEYOND);
@@ -506,11 +504,9 @@ public final class BoltsByOrder {
     }
 
     public int lays(int s) {
-        if (!isSheet(s)) {
-            return tell(BEYOND);
-        }
-        if (sheets[s].isMissing()) {
-            return tell(MISSING);
+        int finding = findingOfSheet(s);
+        if (finding != 0) {
+            return tell(finding);
         }
         int came = 0;
         int most = Math.min(sheets[s].size, real.rodCount);
@@ -525,14 +521,9 @@ public final class BoltsByOrder {
     }
 
     public int book(int s, int rod) {
-        if (!isSheet(s)) {
-            return tell(BEYOND);
-        }
-        if (sheets[s].isMissing()) {
-            return tell(MISSING);
-        }
-        if (!isRod(rod)) {
-            return tell(BEYOND);
+        int finding = findingOfBook(s, rod);
+        if (finding != 0) {
+            return tell(finding);
         }
         raiseGhost();
         ghost.aim();
@@ -544,14 +535,9 @@ public final class BoltsByOrder {
     }
 
     public int read(int s, int rod) {
-        if (!isSheet(s)) {
-            return tell(BEYOND);
-        }
-        if (sheets[s].isMissing()) {
-            return tell(MISSING);
-        }
-        if (!isRod(rod)) {
-            return tell(BEYOND);
+        int finding = findingOfBook(s, rod);
+        if (finding != 0) {
+            return tell(finding);
         }
         raiseGhost();
         ghost.aim();
@@ -654,6 +640,22 @@ public final class BoltsByOrder {
 
     private static boolean isSheet(int s) {
         return isWithin(s, 0, SHEETS - 1);
+    }
+
+    /** What keeps a sheet from being used, or 0. */
+    private int findingOfSheet(int s) {
+        if (!isSheet(s)) {
+            return BEYOND;
+        }
+        return sheets[s].isMissing() ? MISSING : 0;
+    }
+
+    private int findingOfBook(int s, int rod) {
+        int finding = findingOfSheet(s);
+        if (finding == 0 && !isRod(rod)) {
+            return BEYOND;
+        }
+        return finding;
     }
 
     private void raiseGhost() {
