@@ -384,6 +384,24 @@ public final class EdgesNextBoltTest {
         due.is("thief(0, 2), from one behind it", x.thief(0, 2), 2);
     }
 
+    @Sentence(of = 23, says = "The other ROD that, taken down, lets BOLTS of a ROD be most ON n HOURS (0 to 60)")
+    static void theFirstAndTheLastOf8AreThieves(Due due) {
+        BoltsByOrder x = strikingAt(0);
+        for (int i = 0; i < 8; i++) {
+            add(x, ROD, 0, i == 0 ? 20 : 10 - i);
+        }
+        due.is("thief(1, 1): the first", x.thief(1, 1), 0);
+        due.is("thief(7, 1), which is the lowest", x.thief(7, 1), Due.NONE);
+        x.set(7, 2, 19);
+        due.is("thief(7, 1): the first", x.thief(7, 1), 0);
+        due.is("thief(0, 1), which has all", x.thief(0, 1), Due.NONE);
+        x.set(7, 2, 21);
+        due.is("thief(0, 1): the last", x.thief(0, 1), 7);
+        due.is("thief(6, 1), which two are ahead of", x.thief(6, 1), Due.NONE);
+        due.is("count(0)", x.count(0), 8);
+        due.is("HEIGHT of the last stays", x.of(7, 2), 21);
+    }
+
     @Sentence(of = 23, says = "more than as it is")
     static void oneThatTakesNothingIsNoThief(Due due) {
         BoltsByOrder x = twoThieves(4);

@@ -82,6 +82,10 @@ final class EdgesOfTextTerms {
         faults(due, "rod` at 1", 3);
         faults(due, "rod{ at 1", 3);
         faults(due, "roD at 1", 0);
+        faults(due, "roda at 1", 0);
+        faults(due, "rodz at 1", 0);
+        faults(due, "arod at 1", 0);
+        faults(due, "rod at 1 highz 2", 9);
     }
 
     @Sentence(of = TERMS, says = "NUMBERS (digits, 999 at most)")
@@ -168,6 +172,7 @@ final class EdgesOfTextTerms {
         rodIs(due, comes(due, "rod at 1 high 60", 1), 0, 0, 1, 60);
         faults(due, "rod at 1 high 61", 14);
         faults(due, "rod at 1 high", 13);
+        faults(due, "rod at 1 high;", 13);
         faults(due, "rod at 1 high high 2", 14);
         faults(due, "rod at 1 high 2 high 3", 16);
     }
@@ -182,6 +187,10 @@ final class EdgesOfTextTerms {
         faults(due, "rod at 1 from 0 to 24", 19);
         faults(due, "rod at 1 from 0", 15);
         faults(due, "rod at 1 from 0 to", 18);
+        faults(due, "rod at 1 from", 13);
+        faults(due, "rod at 1 from;", 13);
+        faults(due, "rod at 1 from 2;", 15);
+        faults(due, "rod at 1 from 2 to;", 18);
         faults(due, "rod at 1 from to 0", 14);
         faults(due, "rod at 1 to 2", 9);
         faults(due, "rod at 1 from 2 to 3 high 4", 21);
@@ -202,6 +211,7 @@ final class EdgesOfTextTerms {
         cloudIs(due, comes(due, "cloud 1 charge 99", 1), 1, 99);
         faults(due, "cloud 1 charge 100", 15);
         faults(due, "cloud 1 charge", 14);
+        faults(due, "cloud 1 charge;", 14);
         BoltsByOrder x = new BoltsByOrder();
         x.cloud(1, 7);
         due.is("plain()", Due.plain(x, "cloud 3"), 1);

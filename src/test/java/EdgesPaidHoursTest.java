@@ -147,6 +147,15 @@ public final class EdgesPaidHoursTest {
         due.is("from(0, 23): all but 22", y.from(0, 23), 23);
     }
 
+    @Sentence(of = 27, says = "The FROM of such ones (the least")
+    static void eachFromOf24(Due due) {
+        for (int clock = 0; clock < 24; clock++) {
+            BoltsByOrder x = struckEach(1, 24 + clock);
+            due.is("from(0, 1) at " + clock, x.from(0, 1), clock);
+            due.is("from(0, 23) at " + clock, x.from(0, 23), clock);
+        }
+    }
+
     @Sentence(of = 27, says = "0, if there are none to be covered).")
     static void noneToBeCoveredIsFrom0(Due due) {
         BoltsByOrder x = struckEach(1, 9);
@@ -243,6 +252,16 @@ public final class EdgesPaidHoursTest {
         forkIs(due, x, 7, 1, 8);
         x.cloud(1, 6);
         forkIs(due, x, 7, 3, 4);
+    }
+
+    @Sentence(of = 29, says = "a part of a fraction in lowest terms: above (part 0), below the line")
+    static void theLeastDrawOfTheLeastCharge(Due due) {
+        BoltsByOrder x = forked(1, 0, 1, 2);
+        forkIs(due, x, 0, 1, 3);
+        forkIs(due, x, 1, 2, 3);
+        x.set(1, 2, 0);
+        forkIs(due, x, 0, 1, 1);
+        forkIs(due, x, 1, 0, 1);
     }
 
     @Sentence(of = 29, says = "a part of a fraction in lowest terms: above (part 0), below the line")

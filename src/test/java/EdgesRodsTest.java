@@ -154,7 +154,7 @@ public final class EdgesRodsTest {
     static void aRodBehindOneThatWasTakenDownIsNew(Due due) {
         BoltsByOrder x = withRods(4);
         x.set(0, 2, 60);
-        x.pays(0, 0, 23);
+        x.pays(0, 23, 22);
         x.cloud(1, 60);
         x.hours(1);
         due.is("down(0)", x.down(0), 27);
@@ -241,12 +241,10 @@ public final class EdgesRodsTest {
 
     @Sentence(of = 5, says = "BEYOND.")
     static void ofNoSuchRodOrWhatIsRefused(Due due) {
-        BoltsByOrder x = withRods(0, 1);
-        for (int rod : new int[] {LEAST, -1, 2, 8, MOST}) {
-            due.refused(x, "of(" + rod + ", 0)", () -> x.of(rod, 0), Due.BEYOND);
-        }
-        for (int what : new int[] {LEAST, -1, 10, MOST}) {
-            due.refused(x, "of(1, " + what + ")", () -> x.of(1, what), Due.BEYOND);
+        int[][] rows = {{LEAST, 0}, {-1, 0}, {2, 0}, {8, 0}, {MOST, 0}, {1, LEAST}, {1, -1}, {1, 10}, {1, MOST}};
+        for (int[] row : rows) {
+            BoltsByOrder x = withRods(0, 1);
+            due.refused(x, "of(" + row[0] + ", " + row[1] + ")", () -> x.of(row[0], row[1]), Due.BEYOND);
         }
     }
 

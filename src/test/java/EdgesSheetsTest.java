@@ -298,6 +298,12 @@ public final class EdgesSheetsTest {
         return x;
     }
 
+    private static void setHeights(BoltsByOrder x, int... heights) {
+        for (int i = 0; i < heights.length; i++) {
+            x.set(i, 2, heights[i]);
+        }
+    }
+
     @Sentence(of = 37, says = "those that aren't 0 to 60")
     static void heightsThatMayNotBeAreLeftOut(Due due) {
         BoltsByOrder x = withRods(8);
@@ -393,6 +399,27 @@ public final class EdgesSheetsTest {
         has(due, x, 0, -1, 0, 1);
     }
 
+    @Sentence(of = 38, says = "A book: BOLTS of a ROD ON 0, 1, 2, .. HOURS come to a sheet, as many as it has numbers: how many.")
+    static void boltsThatStrikeAnotherOrNoneAreNotBooked(Due due) {
+        BoltsByOrder x = withRods(8);
+        setHeights(x, 0, 0, 0, 0, 0, 0, 5, 9);
+        x.cloud(0, 1);
+        x.cloud(1, 50);
+        x.cloud(2, -1);
+        x.cloud(3, 50);
+        x.cloud(4, 20);
+        x.sheet(0, 8, 5);
+        due.is("book(0, 7)", x.book(0, 7), 5);
+        has(due, x, 0, 0, 1, 2, 3, 4);
+        due.is("book(0, 0), which DRAWS nothing", x.book(0, 0), 5);
+        has(due, x, 0, 0, 0, 0, 0, 0);
+        x.set(7, 1, 2);
+        due.is("book(0, 6): PLACES 1, 0, 0, 1", x.book(0, 6), 5);
+        has(due, x, 0, 0, 0, 1, 2, 2);
+        due.is("book(0, 7)", x.book(0, 7), 5);
+        has(due, x, 0, 0, 1, 1, 1, 2);
+    }
+
     @Sentence(of = 38, says = "BEYOND: no such sheet.")
     static void bookOnNoSuchSheetIsRefused(Due due) {
         BoltsByOrder x = withRods(1);
@@ -464,6 +491,22 @@ public final class EdgesSheetsTest {
             due.is("read(0, 0): PLACE " + place + ", CHARGE 60 to 99", x.read(0, 0), 40);
             due.holds("nothing changes", before.equals(Due.look(x)));
             has(due, x, 0, 0, 1);
+        }
+    }
+
+    @Sentence(of = 39, says = "how many pairs of a CHARGE (0 to 99) and a PLACE of THE CLOUD, in place of what they are, make it just so.")
+    static void driftIsAsItIsForEachPair(Due due) {
+        // By DRIFT -1 the cloud is above 0 in the third hour if it was above 1 (by way of 0 and 0) or 2, by 1 it never is.
+        int[][] rows = {{-1, 2}, {0, 1}, {1, 0}};
+        for (int[] row : rows) {
+            BoltsByOrder x = new BoltsByOrder();
+            x.rod(0, 0);
+            x.set(0, 2, 4);
+            x.cloud(2, row[0]);
+            x.cloud(3, 1);
+            x.cloud(4, 99);
+            lay(x, 0, 8, 0, 0, 0, 1);
+            due.is("read(0, 0) by DRIFT " + row[0] + ": CHARGE 97 alone", x.read(0, 0), row[1]);
         }
     }
 

@@ -135,14 +135,16 @@ public final class EdgesTextTest {
     static void aNewRodHasNothingOfOneThatWasTakenDown(Due due) {
         BoltsByOrder x = new BoltsByOrder();
         x.rod(0, 0);
-        x.pays(0, 0, 23);
+        x.set(0, 2, 33);
+        x.pays(0, 23, 22);
         x.cloud(1, 60);
         x.hours(1);
         due.is("down(0)", x.down(0), 60);
         due.is("plain()", Due.plain(x, "rod at 1"), 1);
-        due.is("BILL", x.of(0, 5), 0);
-        due.is("BOLTS", x.of(0, 6), 0);
-        due.is("TO", x.of(0, 4), 0);
+        int[] fresh = {0, 1, 10, 0, 0, 0, 0};
+        for (int what = 0; what < 7; what++) {
+            due.is("of(0, " + what + ")", x.of(0, what), fresh[what]);
+        }
     }
 
     @Sentence(of = 33, says = "and empty then: how many ITEMS.")

@@ -9,6 +9,7 @@ import java.util.Random;
 
 /** Long runs of calls, drawn from a fixed seed, on the program and on the model: every answer is the same. */
 public final class ModelTest {
+    /** What an object answers behind these is free. */
     private static final int CALLS = 512;
     private static final String[] WORDS = {"rod", "copper", "kite", "oak", "cathedral", "poacher", "at", "high", "from", "to",
         "cloud", "charge", "left", "right", "still", "grows", "breaks", ";", ";", "x", "!", "0", "7", "15", "16", "60", "99", "1000"};
@@ -18,6 +19,7 @@ public final class ModelTest {
     private final Random draw;
     private final BoltsByOrder program = new BoltsByOrder();
     private final Model model = new Model();
+    private int called = 0;
 
     private ModelTest(long seed) {
         // Small seeds that stand side by side have nearly the same first draws.
@@ -43,9 +45,8 @@ public final class ModelTest {
     private void run(List<Method> methods, long seed) throws Exception {
         // Some runs go far into the hours, some stay with few rods.
         int far = draw.nextInt(4);
-        int called = 0;
         if (draw.nextInt(4) > 0) {
-            for (int rods = draw.nextInt(9); rods > 0; rods--, called++) {
+            for (int rods = draw.nextInt(9); rods > 0; rods--) {
                 same(BoltsByOrder.class.getMethod("rod", int.class, int.class), new Object[] {draw.nextInt(6), draw.nextInt(16)}, seed);
             }
         }
@@ -58,7 +59,7 @@ public final class ModelTest {
                 continue;
             }
             if (m.getName().equals("plain")) {
-                called += text(seed);
+                feedText(seed);
             }
             Object[] with = new Object[m.getParameterCount()];
             for (int i = 0; i < with.length; i++) {
@@ -68,7 +69,6 @@ public final class ModelTest {
             if (!same(m, with, seed)) {
                 return;
             }
-            called++;
         }
     }
 
@@ -76,12 +76,12 @@ public final class ModelTest {
         return switch (draw.nextInt(6)) {
             case 0 -> draw.nextLong();
             case 1 -> draw.nextInt(70000) - 35000;
-            case 2 -> program.now(3);
+            case 2 -> model.now(3);
             default -> v;
         };
     }
 
-    private int text(long seed) throws Exception {
+    private void feedText(long seed) throws Exception {
         StringBuilder text = new StringBuilder();
         for (int items = draw.nextInt(4) + 1; items > 0; items--) {
             item(text);
@@ -99,12 +99,10 @@ public final class ModelTest {
             text.setLength(draw.nextInt(text.length()));
         }
         Method feed = BoltsByOrder.class.getMethod("feed", int.class, int.class);
-        int calls = 0;
         if (draw.nextInt(4) > 0) {
             same(BoltsByOrder.class.getMethod("wipe"), new Object[0], seed);
-            calls++;
         }
-        for (int i = 0; i < text.length(); calls++) {
+        for (int i = 0; i < text.length();) {
             int n = Math.min(draw.nextInt(4) + 1, text.length() - i);
             int bytes = draw.nextInt();
             for (int j = 0; j < n; j++) {
@@ -113,7 +111,6 @@ public final class ModelTest {
             same(feed, new Object[] {bytes, n}, seed);
             i += n;
         }
-        return calls;
     }
 
     private String blank(String token) {
@@ -139,7 +136,7 @@ public final class ModelTest {
         if (draw.nextInt(25) == 0) {
             return EDGES[draw.nextInt(EDGES.length)];
         }
-        int rod = draw.nextInt(Math.max(1, program.count(0)));
+        int rod = draw.nextInt(Math.max(1, model.count(0)));
         return switch (name) {
             case "cloud" -> i == 0 ? draw.nextInt(5) : draw.nextInt(3) == 0 ? draw.nextInt(3) - 1 : draw.nextInt(100);
             case "cloudOf" -> draw.nextInt(5);
@@ -171,6 +168,10 @@ public final class ModelTest {
     }
 
     private boolean same(Method m, Object[] with, long seed) throws Exception {
+        if (called == CALLS) {
+            return false;
+        }
+        called++;
         long got = ((Number) m.invoke(program, with)).longValue();
         long want;
         try {
