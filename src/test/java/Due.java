@@ -82,10 +82,10 @@ final class Due {
         return seen.toString();
     }
 
-    /** Lets hours go until it is that HOUR. */
+    /** Lets hours go until it is that HOUR; ends also where hours() does not do as it should. */
     static void goTo(BoltsByOrder x, int hour) {
-        while (x.now(0) < hour) {
-            x.hours(Math.min(100, hour - x.now(0)));
+        for (int left = hour - x.now(0); left > 0; left -= 100) {
+            x.hours(Math.min(100, left));
         }
     }
 

@@ -114,7 +114,7 @@ public final class EdgesImagesTest {
     static void onlyTheLatestIsKept(Due due) {
         BoltsByOrder x = withRods(8);
         x.image();
-        while (x.count(0) > 0) {
+        for (int i = 0; i < 8; i++) {
             x.down(0);
         }
         due.is("image() of none", x.image(), 1);
